@@ -494,7 +494,7 @@ public final class HoneyHouse {
             return (long) held.heat * held.total;
         }
         long sum = 0;
-        for (int k = 0; k < lots.length; k++) {
+        for (int k = 0; k < lotCount && k < lots.length; k++) {
             Lot it = lots[k];
             if (it != null) {
                 sum += (long) held.gramsOf(k) * it.perGram(what);
@@ -739,12 +739,15 @@ public final class HoneyHouse {
         }
 
         private void shareOut(Vessel tank, int x) {
-            long whole = tank.total;
-            int lacking = whole > 0 ? x : 0;
+            Arrays.fill(grams, 0);
+            if (tank.total <= 0) {
+                return;
+            }
+            int lacking = x;
             for (int k = 0; k < grams.length; k++) {
                 long share = (long) x * tank.gramsOf(k);
-                grams[k] = whole > 0 ? (int) (share / whole) : 0;
-                rests[k] = whole > 0 ? share % whole : 0;
+                grams[k] = (int) (share / tank.total);
+                rests[k] = share % tank.total;
                 lacking -= grams[k];
             }
             for (int k = 0; k < rests.length && k < lacking; k++) {
@@ -770,13 +773,12 @@ public final class HoneyHouse {
     private static final class Blender {
         final int[] toldParts = new int[TANKS];
         boolean hasTold;
-        // Places that no tank takes have no parts to give.
+        // Of the places that no tank takes there are no parts, whatever else stands there.
         private final int[] tankNumbers = new int[BLEND_TANKS];
         private final int[] mostParts = new int[BLEND_TANKS];
         private final int[] waters = new int[BLEND_TANKS];
         private final int[] colours = new int[BLEND_TANKS];
         private final int[] prices = new int[BLEND_TANKS];
-        private final int[] trial = new int[BLEND_TANKS];
         private final int[] best = new int[BLEND_TANKS];
         private int tankCount;
         private int bestPrice;
@@ -811,12 +813,7 @@ public final class HoneyHouse {
             // Fewer parts of the first tanks come first, so the first of like prices is the one.
             for (int a = 0; a <= Math.min(mostParts[0], partsInAll); a++) {
                 for (int b = 0; b <= Math.min(mostParts[1], partsInAll - a); b++) {
-                    int rest = partsInAll - a - b;
-                    for (int c = 0; c <= Math.min(mostParts[2], rest); c++) {
-                        if (rest - c <= mostParts[3]) {
-                            tryParts(a, b, c, rest - c);
-                        }
-                    }
+                    tryWith(a, b);
                 }
             }
             if (bestPrice != NO_BLEND) {
@@ -825,28 +822,29 @@ public final class HoneyHouse {
             return bestPrice;
         }
 
-        private void tryParts(int a, int b, int c, int d) {
-            trial[0] = a;
-            trial[1] = b;
-            trial[2] = c;
-            trial[3] = d;
-            int price = trialSum(prices);
-            if (bestPrice != NO_BLEND && price >= bestPrice) {
-                return;
-            }
-            int colour = trialSum(colours);
-            if (trialSum(waters) <= mostWater && colour >= leastColour && colour <= mostColour) {
-                bestPrice = price;
-                System.arraycopy(trial, 0, best, 0, BLEND_TANKS);
+        /** Tries all parts of the third and fourth place with these of the first and second. */
+        private void tryWith(int a, int b) {
+            int rest = partsInAll - a - b;
+            int price = a * prices[0] + b * prices[1];
+            int water = a * waters[0] + b * waters[1];
+            int colour = a * colours[0] + b * colours[1];
+            for (int c = Math.max(0, rest - mostParts[3]); c <= Math.min(mostParts[2], rest); c++) {
+                int d = rest - c;
+                int itsPrice = price + c * prices[2] + d * prices[3];
+                if ((bestPrice == NO_BLEND || itsPrice < bestPrice)
+                    && isWithin(water + c * waters[2] + d * waters[3],
+                        colour + c * colours[2] + d * colours[3])) {
+                    bestPrice = itsPrice;
+                    best[0] = a;
+                    best[1] = b;
+                    best[2] = c;
+                    best[3] = d;
+                }
             }
         }
 
-        private int trialSum(int[] each) {
-            int sum = 0;
-            for (int k = 0; k < tankCount && k < BLEND_TANKS && k < each.length; k++) {
-                sum += trial[k] * each[k];
-            }
-            return sum;
+        private boolean isWithin(int water, int colour) {
+            return water <= mostWater && colour >= leastColour && colour <= mostColour;
         }
 
         private void keepBest() {
@@ -881,7 +879,8 @@ public final class HoneyHouse {
         static final int END = 0;
         static final int WORD = 1;
         static final int NUMBER = 2;
-        static final int OTHER = 3;
+        static final int BLANK = 3;
+        static final int OTHER = 4;
 
         int length;
         // The piece at hand: its kind, its first byte, the byte behind it.
@@ -906,13 +905,14 @@ public final class HoneyHouse {
 
         void advance() {
             int at = end;
-            while (at < length && isBlank(byteAt(at))) {
+            while (at < length && kindOf(byteAt(at)) == BLANK) {
                 at++;
             }
             start = at;
             kind = kindOf(byteAt(at));
             end = kind == END ? at : at + 1;
-            while (end < length && isRunOn(byteAt(end))) {
+            boolean isRun = kind == WORD || kind == NUMBER;
+            while (isRun && end < length && kindOf(byteAt(end)) == kind) {
                 end++;
             }
         }
@@ -955,30 +955,17 @@ public final class HoneyHouse {
             return at >= 0 && at < length && at < bytes.length ? bytes[at] : NONE;
         }
 
-        private boolean isRunOn(int next) {
-            return (kind == WORD && isLetter(next)) || (kind == NUMBER && isDigit(next));
-        }
-
-        private static int kindOf(int first) {
-            if (first == NONE) {
-                return END;
-            }
-            if (isLetter(first)) {
+        private static int kindOf(int b) {
+            if (b >= 'a' && b <= 'z') {
                 return WORD;
             }
-            return isDigit(first) ? NUMBER : OTHER;
-        }
-
-        private static boolean isBlank(int b) {
-            return b == 10 || b == 32;
-        }
-
-        private static boolean isLetter(int b) {
-            return b >= 'a' && b <= 'z';
-        }
-
-        private static boolean isDigit(int b) {
-            return b >= '0' && b <= '9';
+            if (b >= '0' && b <= '9') {
+                return NUMBER;
+            }
+            if (b == 10 || b == 32) {
+                return BLANK;
+            }
+            return b == NONE ? END : OTHER;
         }
     }
 
@@ -1011,7 +998,7 @@ public final class HoneyHouse {
                 return false;
             }
             from = value;
-            return readByte(';') && (tape.kind == Tape.END || isUnfit());
+            return readByte(';') && (tape.kind == Tape.END || failHere());
         }
 
         int[] codeRead() {
@@ -1025,13 +1012,13 @@ public final class HoneyHouse {
         }
 
         /** No rule goes on with the piece at hand. */
-        private boolean isUnfit() {
+        private boolean failHere() {
             return failAt(FAULT_TEXT, tape.start);
         }
 
         private boolean readName() {
             if (tape.kind != Tape.WORD || isKeptWord()) {
-                return isUnfit();
+                return failHere();
             }
             if (tape.end - tape.start > NAME_LETTERS) {
                 return failAt(FAULT_TEXT, tape.start + NAME_LETTERS);
@@ -1049,7 +1036,7 @@ public final class HoneyHouse {
 
         private boolean readByte(char which) {
             if (!tape.isByte(which)) {
-                return isUnfit();
+                return failHere();
             }
             tape.advance();
             return true;
@@ -1057,7 +1044,7 @@ public final class HoneyHouse {
 
         private boolean readWord(String word) {
             if (!tape.isWord(word)) {
-                return isUnfit();
+                return failHere();
             }
             tape.advance();
             return true;
@@ -1065,7 +1052,7 @@ public final class HoneyHouse {
 
         private boolean readNumber(int most) {
             if (tape.kind != Tape.NUMBER) {
-                return isUnfit();
+                return failHere();
             }
             if (tape.end - tape.start > NUMBER_DIGITS) {
                 return failAt(FAULT_TEXT, tape.start + NUMBER_DIGITS);
@@ -1080,23 +1067,29 @@ public final class HoneyHouse {
 
         /** open: how many brackets and nots are open around it. */
         private boolean readEither(int open) {
-            boolean isRead = readBoth(open);
-            for (int k = 0; k < MOST_BYTES && isRead && tape.isWord("or"); k++) {
+            boolean isRead = readOne(open);
+            boolean orWaits = false;
+            for (int k = 0; k < MOST_BYTES && isRead && isAndOr(); k++) {
+                boolean isAnd = tape.isWord("and");
+                // An "or" is worked out behind the ands at its right side: they bind closer.
+                if (!isAnd && orWaits) {
+                    addCode(CODE_OR);
+                }
+                orWaits = orWaits || !isAnd;
                 tape.advance();
-                isRead = readBoth(open);
+                isRead = readOne(open);
+                if (isAnd) {
+                    addCode(CODE_AND);
+                }
+            }
+            if (orWaits) {
                 addCode(CODE_OR);
             }
             return isRead;
         }
 
-        private boolean readBoth(int open) {
-            boolean isRead = readOne(open);
-            for (int k = 0; k < MOST_BYTES && isRead && tape.isWord("and"); k++) {
-                tape.advance();
-                isRead = readOne(open);
-                addCode(CODE_AND);
-            }
-            return isRead;
+        private boolean isAndOr() {
+            return tape.isWord("and") || tape.isWord("or");
         }
 
         private boolean readOne(int open) {
@@ -1119,7 +1112,7 @@ public final class HoneyHouse {
         private boolean readTest() {
             int what = measureNamed();
             if (what == NONE) {
-                return isUnfit();
+                return failHere();
             }
             tape.advance();
             if (what == POLLEN_LOW || what == LAND) {
@@ -1130,7 +1123,7 @@ public final class HoneyHouse {
             }
             boolean isMax = tape.isWord("max");
             if (!isMax && !tape.isWord("min")) {
-                return isUnfit();
+                return failHere();
             }
             tape.advance();
             if (!readNumber(WHOLE)) {

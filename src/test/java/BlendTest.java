@@ -43,6 +43,10 @@ public final class BlendTest {
         Check.due("an empty one", -1, x.blend(512 + 1, 1, 300, 0, 140));
         Check.due("tank 10", -1, x.blend(1024, 1, 300, 0, 140));
         Check.due("tank 10 too", -1, x.blend(1025, 1, 300, 0, 140));
+        x.spill(0, 5000);
+        Check.due("the first one is empty", -1, x.blend(3, 1, 300, 0, 140));
+        x.lot(0, 5000, 150, 50, 0);
+        x.pour(9, 0, 5000);
         Check.due("bits -1", -1, x.blend(-1, 1, 300, 0, 140));
         Check.due("bits least", -1, x.blend(Integer.MIN_VALUE, 1, 300, 0, 140));
         Check.due("bits least and 1", -1, x.blend(Integer.MIN_VALUE + 1, 1, 300, 0, 140));
@@ -54,6 +58,8 @@ public final class BlendTest {
         Check.due("least 141", -1, x.blend(1, 1, 300, 141, 140));
         Check.due("most -1", -1, x.blend(1, 1, 300, 0, -1));
         Check.due("most 141", -1, x.blend(1, 1, 300, 0, 141));
+        Check.due("water 0", -2, x.blend(1, 1, 0, 0, 140));
+        Check.due("most 0", -2, x.blend(1, 1, 300, 0, 0));
         Check.due("least above most", -2, x.blend(1, 1, 300, 51, 50));
         Check.due("parts 5", 5, x.blend(1, 5, 300, 0, 140));
         Check.due("parts 6", -2, x.blend(1, 6, 300, 0, 140));

@@ -22,6 +22,7 @@ public final class PayTest {
         x.lot(0, 200000, 100, 0, 0);
         Check.due("no step holds", 0, x.of(0, 6));
         Check.due("most", true, x.step(3, 300, 100000));
+        Check.due("least", true, x.step(2, 0, 0));
         x.lot(0, 200000, 300, 0, 0);
         Check.due("most pay", 20000000, x.of(1, 6));
         Check.due("paid", 20000000, x.paid(0));

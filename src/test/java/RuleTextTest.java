@@ -43,6 +43,8 @@ public final class RuleTextTest {
         good("a:not(not(not(heat max 1)))from 0;");
         good("a:not heat max 1 and not heat max 1 or not(heat max 1)and(not heat max 1)from 0;");
         good("a:not not not heat max 1 and not not not(((heat max 1)))or((((((colour min 0))))))from 0;");
+        good("  abcdefghijkl:heat max 1 from 0;");
+        good("beat:heat max 1 from 0;");
         good("ore:heat max 1 from 0;");
         good("fro:heat max 1 from 0;");
         good("name:heat max 1 from 0;");
@@ -68,6 +70,7 @@ public final class RuleTextTest {
         bad("aB:heat max 1 from 0;", 1, 1);
         bad("a:heaT max 1 from 0;", 1, 2);
         bad("a:hea", 1, 2);
+        bad("a:beat max 1 from 0;", 1, 2);
         bad("a:heats max 1 from 0;", 1, 2);
         bad("a:heat 1 max 1 from 0;", 1, 7);
         bad("a:heat max 1 max 1 from 0;", 1, 13);
@@ -166,6 +169,8 @@ public final class RuleTextTest {
         Check.due("the fault", 1, x.fault(0));
         Check.due("the place", 1, x.fault(1));
         Check.due("count", 16, x.count(2));
+        Check.due("shut 15", true, x.shut(15, 0));
+        Check.due("shut 16", false, x.shut(16, 0));
     }
 
     private static void faultsOfOtherNumbers() {

@@ -31,10 +31,10 @@ public final class RulesTest {
 
     private static void tests() {
         // Water 500/3 = 166.67, colour 41/3 = 13.67, land 0 666.67, land 2 333.33.
-        String[] sure = {"water min 166", "water max 167", "colour min 13", "colour max 14",
+        String[] sure = {"water min 0", "water min 166", "water max 167", "colour min 13", "colour max 14",
             "heat min 0", "heat max 0", "land 0 min 666", "land 0 max 667", "land 2 min 333",
             "land 2 max 334", "land 1 max 0", "land 1 min 0"};
-        String[] neither = {"water min 167", "water max 166", "colour min 14", "colour max 13",
+        String[] neither = {"water max 0", "water min 167", "water max 166", "colour min 14", "colour max 13",
             "heat min 1", "land 0 min 667", "land 0 max 666", "land 2 min 334", "land 1 min 1"};
         for (String text : sure) {
             verdict(mixed(), text, 2);
@@ -149,6 +149,19 @@ public final class RulesTest {
         x.jar(0, 1);
         Check.due("batch", 0, x.name(1, 0, 10));
         namesOfLikeLetters();
+        latestFromNotLatestTold();
+    }
+
+    private static void latestFromNotLatestTold() {
+        HoneyHouse x = mixed();
+        Check.tell(x, "a:heat max 1 from 20;");
+        Check.tell(x, "a:heat max 1 from 10;");
+        Check.tell(x, "a:heat max 1 from 10;");
+        Check.due("before all", -1, x.name(0, 0, 9));
+        Check.due("told last of like ones", 2, x.name(0, 0, 10));
+        Check.due("told first, from latest", 0, x.name(0, 0, 20));
+        Check.tell(x, "a:heat min 1 from 20;");
+        Check.due("the one told last says no", -1, x.name(0, 0, 20));
     }
 
     private static void namesOfLikeLetters() {

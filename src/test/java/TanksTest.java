@@ -156,9 +156,17 @@ public final class TanksTest {
         x.pour(3, 0, 1);
         Check.due("poured into empty", 0, x.holds(0, 0, 2));
         x.warm(0, 3);
+        Check.due("told of 1 gram", 1000, x.measure(0, 0, 0));
         x.jar(0, 1);
+        parts("drawn 1 of 1", x, 1, 0, 0, 0, 0, 1);
         Check.due("jar has it", 3, x.holds(1, 0, 2));
         Check.due("tank has none", 0, x.holds(0, 0, 2));
+        x.pour(3, 0, 1);
+        x.warm(0, 8);
+        x.pour(3, 1, 2);
+        x.warm(1, 2);
+        x.move(1, 0, 1);
+        Check.due("of 1 gram the greater stays", 8, x.holds(0, 0, 2));
     }
 
     private static void jars() {
@@ -193,6 +201,8 @@ public final class TanksTest {
         }
         Check.due("jar 60", -3, x.jar(0, 1));
         Check.due("nothing drawn", 940, x.holds(0, 0, 0));
+        Check.due("batch 59", 1, x.holds(1, 59, 0));
+        Check.due("batch 60", -1, x.holds(1, 60, 0));
         Check.due("not so many is first", -2, x.jar(0, 941));
         Check.due("no tank is first", -1, x.jar(10, 1));
     }
@@ -205,7 +215,8 @@ public final class TanksTest {
         Check.due("spill 12", -2, x.spill(0, 12));
         Check.due("spill", 5, x.spill(0, 6));
         parts("rest", x, 0, 0, 2, 1, 2);
-        Check.due("spill all", 0, x.spill(0, 5));
+        Check.due("spill 1", 4, x.spill(0, 1));
+        Check.due("spill all", 0, x.spill(0, 4));
         Check.due("empty", -2, x.spill(0, 1));
     }
 

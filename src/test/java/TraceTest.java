@@ -45,6 +45,10 @@ public final class TraceTest {
         x.jar(0, 35);
         Check.due("trace 1 again", 2, x.trace(1));
         Check.due("found through a move", 4, x.found(1));
+        x.pour(2, 1, 1);
+        x.jar(1, 1);
+        Check.due("one gram", 1, x.trace(2));
+        Check.due("found by one gram", 5, x.found(0));
     }
 
     private static void keepersGrams() {
@@ -63,6 +67,8 @@ public final class TraceTest {
         Check.due("tanks of 4", 0, x.whose(4, 1));
         Check.due("gone of 4", 0, x.whose(4, 3));
         Check.due("of 0", 0, x.whose(0, 0));
+        x.lot(9, 12, 150, 0, 0);
+        Check.due("of 9", 12, x.whose(9, 0));
         Check.due("what 4", -1, x.whose(3, 4));
         Check.due("what -1", -1, x.whose(3, -1));
         Check.due("keeper 10", -1, x.whose(10, 0));
