@@ -6,6 +6,7 @@ public final class BlendTest {
         likePrices();
         toldNumbers();
         partsStay();
+        fourTanks();
         mostOfAll();
         Check.finish();
     }
@@ -117,6 +118,22 @@ public final class BlendTest {
         x.blend(2, 2, 300, 0, 140);
         parts("anew", x, 0, 2);
         Check.due("nothing is drawn", 3000, x.holds(0, 0, 0));
+    }
+
+    private static void fourTanks() {
+        HoneyHouse x = house(new int[] {1000, 160, 10, 9}, new int[] {1000, 170, 20, 9},
+            new int[] {2000, 200, 60, 2}, new int[] {2000, 220, 90, 1});
+        // All six: water 160 + 170 + 400 + 440 = 1170, colour 10 + 20 + 120 + 180 = 330.
+        Check.due("all", 24, x.blend(15, 6, 195, 55, 55));
+        parts("all", x, 1, 1, 2, 2);
+        Check.due("too wet", -2, x.blend(15, 6, 194, 0, 140));
+        Check.due("too dark", -2, x.blend(15, 6, 300, 0, 54));
+        Check.due("too light", -2, x.blend(15, 6, 300, 56, 140));
+        // The third and fourth alone: 2 + 2 parts have water 840 and colour 300.
+        Check.due("the cheap ones", 6, x.blend(15, 4, 210, 75, 75));
+        parts("the cheap ones", x, 0, 0, 2, 2);
+        Check.due("a drier one", 13, x.blend(15, 4, 209, 0, 140));
+        parts("a drier one", x, 0, 1, 1, 2);
     }
 
     private static void mostOfAll() {

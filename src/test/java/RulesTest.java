@@ -84,6 +84,11 @@ public final class RulesTest {
         }
         verdict(mixed(), yes + " or " + no + " and " + no, 2);
         verdict(mixed(), no + " and " + no + " or " + yes, 2);
+        verdict(mixed(), yes + " or " + no + " or " + no, 2);
+        verdict(mixed(), no + " or " + no + " or " + yes, 2);
+        verdict(mixed(), no + " or " + yes + " or " + no + " and " + yes, 2);
+        verdict(mixed(), yes + " and(" + no + " or " + no + " or " + no + ")", 0);
+        verdict(mixed(), no + " or " + no + " and(" + yes + ")or " + no, 0);
         verdict(mixed(), "(" + yes + " or " + no + ")and " + no, 0);
         verdict(mixed(), "not " + yes + " or " + yes, 2);
         verdict(mixed(), "not(" + yes + " or " + yes + ")", 0);
@@ -162,6 +167,11 @@ public final class RulesTest {
         Check.due("told first, from latest", 0, x.name(0, 0, 20));
         Check.tell(x, "a:heat min 1 from 20;");
         Check.due("the one told last says no", -1, x.name(0, 0, 20));
+        HoneyHouse y = mixed();
+        Check.tell(y, "a:heat min 1 from 20;");
+        Check.tell(y, "a:heat max 1 from 10;");
+        Check.due("the first one not yet", 1, y.name(0, 0, 19));
+        Check.due("the first one says no", -1, y.name(0, 0, 20));
     }
 
     private static void namesOfLikeLetters() {
