@@ -123,8 +123,6 @@ public final class FaceTest {
     }
 
     private static void noCallThrows() throws ReflectiveOperationException {
-        HoneyHouse empty = new HoneyHouse();
-        HoneyHouse full = filled();
         for (Method method : HoneyHouse.class.getDeclaredMethods()) {
             if (!Modifier.isPublic(method.getModifiers())) {
                 continue;
@@ -138,8 +136,8 @@ public final class FaceTest {
                     args[k] = EDGES[rest % EDGES.length];
                     rest /= EDGES.length;
                 }
-                ends(empty, method, args);
-                ends(full, method, args);
+                ends(new HoneyHouse(), method, args);
+                ends(filled(), method, args);
             }
         }
     }

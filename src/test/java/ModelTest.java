@@ -1,15 +1,19 @@
 import java.nio.charset.StandardCharsets;
 import java.util.Random;
 
-/** All promises: runs of 512 calls, each answered by the class and by ModelHouse. */
+/** All promises: runs of up to 512 calls, each answered by the class and by ModelHouse. */
 public final class ModelTest {
-    private static final int RUNS = 600;
-    private static final int CALLS = 512;
+    private static final int RUNS = 1600;
+    // Behind its 512th call an object may answer what it likes.
+    private static final int MOST_CALLS = 512;
+    // A rule that is told: twenty feeds, the end, the rule, two faults, a shut.
+    private static final int CALLS_AT_ONCE = 25;
 
     private final Random random;
     private final HoneyHouse x = new HoneyHouse();
     private final ModelHouse m = new ModelHouse();
     private final int run;
+    private int calls;
 
     private ModelTest(int run) {
         this.run = run;
@@ -25,11 +29,11 @@ public final class ModelTest {
     }
 
     private void play() {
-        int kind = run % 4;
+        int kind = run % 5;
         if (run % 3 != 0) {
             stock(run % 3 == 1 ? 200000 : 40);
         }
-        for (int k = 0; k < CALLS && Check.wrongSoFar() == 0; k++) {
+        while (calls + CALLS_AT_ONCE <= MOST_CALLS && Check.wrongSoFar() == 0) {
             int roll = random.nextInt(100);
             if (roll < 45) {
                 ask(random.nextInt(16));
@@ -37,6 +41,8 @@ public final class ModelTest {
                 tellRule();
             } else if (kind == 1 && roll < 75) {
                 blend();
+            } else if (kind == 2 && roll < 75) {
+                jar();
             } else {
                 change(random.nextInt(14));
             }
@@ -59,11 +65,14 @@ public final class ModelTest {
         }
     }
 
+    /** Each of these is one call of the class: what it is asked with is chosen by the model. */
     private void due(String call, long want, long got) {
+        calls++;
         Check.due("run " + run + ": " + call, want, got);
     }
 
     private void due(String call, boolean want, boolean got) {
+        calls++;
         Check.due("run " + run + ": " + call, want, got);
     }
 
@@ -80,7 +89,7 @@ public final class ModelTest {
     }
 
     private int someLot() {
-        return some(0, Math.max(0, x.count(0) - 1));
+        return some(0, Math.max(0, m.count(0) - 1));
     }
 
     private int someTank() {
@@ -144,13 +153,13 @@ public final class ModelTest {
     private void pour() {
         int lot = someLot();
         int tank = someTank();
-        int grams = some(1, Math.max(1, x.of(lot, 5)));
+        int grams = some(1, Math.max(1, m.of(lot, 5)));
         due("pour " + lot + " " + tank + " " + grams, m.pour(lot, tank, grams),
             x.pour(lot, tank, grams));
     }
 
     private int someOf(int tank) {
-        int all = Math.max(1, x.holds(0, tank, 0));
+        int all = Math.max(1, m.holds(0, tank, 0));
         return random.nextInt(2) == 0 ? some(1, all) : some(1, Math.max(1, all / 50));
     }
 
@@ -182,7 +191,7 @@ public final class ModelTest {
 
     private void stepOrDay() {
         if (random.nextInt(4) == 0) {
-            int day = x.count(3) + some(0, 20);
+            int day = m.count(3) + some(0, 20);
             due("today " + day, m.today(day), x.today(day));
             return;
         }
@@ -229,7 +238,7 @@ public final class ModelTest {
 
     private void ask(int which) {
         int where = some(0, 1);
-        int n = where == 0 ? someTank() : some(0, Math.max(0, x.count(1) - 1));
+        int n = where == 0 ? someTank() : some(0, Math.max(0, m.count(1) - 1));
         int lot = someLot();
         int keeper = some(0, 9);
         int what = some(0, 6);
@@ -247,7 +256,7 @@ public final class ModelTest {
             case 7:
             case 8:
             case 9:
-                int rule = some(0, Math.max(0, x.count(2) - 1));
+                int rule = some(0, Math.max(0, m.count(2) - 1));
                 due("says", m.says(rule, where, n), x.says(rule, where, n));
                 break;
             case 10:
