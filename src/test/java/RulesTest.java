@@ -287,6 +287,10 @@ public final class RulesTest {
     private static void longTexts() {
         sure("heat min 0and(heat min 1or(heat min 0and(heat min 1or(heat min 0and"
             + "(heat min 1or(heat min 0and heat max 0))))))");
+        // In each of six brackets an or and an and wait for their right sides: no text has more.
+        String waiting = "heat min 1or heat min 0and(".repeat(6);
+        sure(waiting + "heat min 1or heat min 0and heat max 0" + ")".repeat(6));
+        neither(waiting + "heat min 1or heat min 0and heat min 1" + ")".repeat(6));
         StringBuilder ors = new StringBuilder("heat min 1");
         for (int k = 0; k < 29; k++) {
             ors.append("or heat min 1");
