@@ -35,6 +35,7 @@ public final class RulesTest {
         nameShutLeavesNoneOfItsName();
         nameAfterOneThatIsShut();
         namesAreApart();
+        namesAreAlikeWhateverTheBlanks();
         nameOfOthers();
         Check.finish();
     }
@@ -463,7 +464,8 @@ public final class RulesTest {
 
     private static void namesAreApart() {
         HoneyHouse x = mixed();
-        String[] some = {"abcdefghijkl", "abcdefghijkm", "bbcdefghijkl", "a", "aa", "ab", "ba"};
+        String[] some = {"abcdefghijkl", "abcdefghijkm", "bbcdefghijkl", "a", "aa", "ab", "ba",
+            "r", "z", "zz"};
         for (String one : some) {
             Check.tell(x, one + ":heat max 1 from 0;");
         }
@@ -473,6 +475,15 @@ public final class RulesTest {
         }
         Check.due("all are shut", -1, x.name(0, 0, 1));
         Check.due("none was ahead", 0, x.name(0, 0, 0));
+    }
+
+    private static void namesAreAlikeWhateverTheBlanks() {
+        HoneyHouse x = mixed();
+        Check.tell(x, "bloom:heat max 1 from 10;");
+        Check.tell(x, "bloom :heat max 1 from 20;");
+        Check.tell(x, " \nbloom\n : heat max 1 from 30 ; ");
+        Check.tell(x, "bloom:(heat min 1)from 40;");
+        names(x, new int[][] {{9, -1}, {10, 0}, {20, 1}, {30, 2}, {40, -1}});
     }
 
     private static void nameOfOthers() {
