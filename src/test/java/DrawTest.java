@@ -1,3 +1,5 @@
+import java.util.Arrays;
+
 /** Term I, for promises 11 to 15: what is drawn of each lot, and the heat that goes with it. */
 public final class DrawTest {
     public static void main(String[] args) {
@@ -72,7 +74,7 @@ public final class DrawTest {
         Houses.parts("back", x, 0, 0, 5, 3, 3);
         // 39 of 40 with 40 lots of 1 gram: rests of 39 each, all but the last make up.
         int[] ones = new int[40];
-        java.util.Arrays.fill(ones, 1);
+        Arrays.fill(ones, 1);
         HoneyHouse y = Houses.holding(ones);
         y.move(0, 1, 39);
         Check.due("the last one stays", 1, y.part(0, 0, 39));
